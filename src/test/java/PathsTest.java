@@ -41,7 +41,7 @@ public final class PathsTest {
             x.wire(3, 4, 8);
             x.set(0, 2, m - 2);
             x.ring(3, 3);
-            // w(c + p - r) - p + r: p - r is -5, so contact 9 enters at 4, and 8 leaves at 13.
+            // w(c + p - r) - p + r: the wiring is turned by p - r.
             int shift = m - 2 - 3;
             int enters = Math.floorMod(4 - shift, m);
             int leaves = Math.floorMod(8 - shift, m);

@@ -346,7 +346,7 @@ public final class RotorBench {
         return NONE;
     }
 
-    /** Brings back what is less than one round off; a size is small, so no division is needed. */
+    /** No caller is off by more than one round, so that no division is needed. */
     private static int round(int value, int size) {
         if (value < 0) {
             return value + size;
@@ -389,7 +389,7 @@ public final class RotorBench {
         final int[] leadsTo = new int[MOST_CONTACTS];
         final int[] comesFrom = new int[MOST_CONTACTS];
         final boolean[] notches = new boolean[MOST_CONTACTS];
-        int ring = 0;
+        int ring;
 
         void clear() {
             for (int c = 0; c < MOST_CONTACTS; c++) {
@@ -422,7 +422,7 @@ public final class RotorBench {
     /** A contact in no pair is its own partner: then an exchange needs no question. */
     private static final class Pairs {
         final int[] partners = new int[MOST_CONTACTS];
-        int size = 0;
+        int size;
 
         void clear() {
             for (int c = 0; c < MOST_CONTACTS; c++) {
@@ -452,7 +452,7 @@ public final class RotorBench {
 
     private static final class PinWheel {
         final boolean[] ups = new boolean[MOST_PINS];
-        int length = 0;
+        int length;
 
         void cut(int pins) {
             for (int k = 0; k < MOST_PINS; k++) {
@@ -477,11 +477,11 @@ public final class RotorBench {
         final Pairs plugboard = new Pairs();
         final Pairs reflector = new Pairs();
         final Stand stand = new Stand();
-        int contacts = FIRST_CONTACTS;
-        int filled = 0;
-        int stepRule = 0;
-        int signPath = 0;
-        boolean reflecting = false;
+        int contacts;
+        int filled;
+        int stepRule;
+        int signPath;
+        boolean reflecting;
 
         Machine() {
             for (int w = 0; w < WHEELS; w++) {
@@ -689,11 +689,10 @@ public final class RotorBench {
     /** The latest steps, on a round row: a new one takes the room of the oldest. */
     private static final class Steps {
         final int[] moved = new int[MOST_UNDONE];
-        int next = 0;
-        int size = 0;
+        int next;
+        int size;
 
         void clear() {
-            next = 0;
             size = 0;
         }
 
@@ -714,14 +713,14 @@ public final class RotorBench {
         final Stand start = new Stand();
         final int[] keyed = new int[MOST_SIGNS];
         final int[] came = new int[MOST_SIGNS];
-        int size = 0;
+        int size;
     }
 
     /** All messages are made at once and used again, as contacts() may clear them at every call. */
     private static final class Log {
         final Message[] messages = new Message[MOST_MESSAGES];
-        int size = 0;
-        boolean running = false;
+        int size;
+        boolean running;
 
         Log() {
             for (int i = 0; i < MOST_MESSAGES; i++) {
@@ -731,7 +730,6 @@ public final class RotorBench {
 
         void clear() {
             size = 0;
-            running = false;
         }
 
         boolean isRunning(int message) {

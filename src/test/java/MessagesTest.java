@@ -17,6 +17,7 @@ public final class MessagesTest {
         replayOfAnotherWhileOpen();
         replayFromPositionsOfThen();
         replayWithOtherPinWheels();
+        replayOfEachPinWheel();
         replayLeavesAll();
         count();
         CHECK.end();
@@ -228,6 +229,30 @@ public final class MessagesTest {
         x.set(1, 3, 1);
         CHECK.is("one that was none stands at 0", x.replay(0), NONE);
         CHECK.is("and is where it was", x.at(1, 3), 1);
+    }
+
+    private static void replayOfEachPinWheel() {
+        for (int k = 0; k < 12; k++) {
+            RotorBench x = new RotorBench();
+            x.path(2);
+            x.lugs(9, NONE, k);
+            x.pins(k, 61);
+            x.set(1, k, 59);
+            x.pin(k, 60, true);
+            x.open();
+            x.key(0);
+            x.close();
+            x.set(1, k, 0);
+            CHECK.is("the place of then of pin wheel " + k, x.replay(0), NONE);
+            // Place 59 of then is place 9 of 10 now; 0 is the next.
+            x.pins(k, 10);
+            x.pin(k, 0, true);
+            x.set(1, k, 3);
+            CHECK.is("round on pin wheel " + k, x.replay(0), NONE);
+            x.pin(k, 0, false);
+            CHECK.is("the pin is down on pin wheel " + k, x.replay(0), 0);
+            CHECK.is("one pin wheel, " + k, x.count(4), 1);
+        }
     }
 
     private static void replayLeavesAll() {

@@ -102,7 +102,7 @@ public final class SettingsTest {
             x.pins(k, k + 2);
             x.pin(k, 0, true);
             x.pin(k, k + 1, true);
-            x.set(1, k, k + 1);
+            x.set(1, k, k);
         }
         for (int bar = 0; bar < 27; bar++) {
             x.lugs(bar, bar % 12, NONE);
@@ -297,7 +297,7 @@ public final class SettingsTest {
         CHECK.is("61 pins", x.pins(11, 61), 0);
         CHECK.is("one pin wheel", x.count(4), 1);
         x.pin(11, 60, true);
-        x.pin(11, 3, true);
+        x.pin(11, 0, true);
         x.set(1, 11, 60);
         x.key(0);
         x.key(0);
@@ -306,7 +306,7 @@ public final class SettingsTest {
         CHECK.is("nothing to undo", x.count(7), 0);
         CHECK.is("its place is 0", x.at(1, 11), 0);
         CHECK.is("pin 60 is down", x.pin(11, 60, false), false);
-        CHECK.is("pin 3 is down", x.pin(11, 3, false), false);
+        CHECK.is("pin 0 is down", x.pin(11, 0, false), false);
         CHECK.is("5 pins", x.pins(11, 5), 61);
         x.set(1, 11, 4);
         CHECK.is("none", x.pins(11, 0), 5);

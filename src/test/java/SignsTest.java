@@ -281,6 +281,17 @@ public final class SignsTest {
         CHECK.is("two wheels", x.period(5000), 676);
         x.notch(0, 12, true);
         CHECK.is("two notches", x.period(5000), 338);
+        x.contacts(10);
+        for (int k = 0; k < 12; k++) {
+            x.pins(k, 7);
+            CHECK.is("pin wheel " + k + " alone", x.period(50), 7);
+            x.pins(k, 0);
+        }
+        for (int s = 0; s < 6; s++) {
+            x.fill(s, 0);
+            CHECK.is("slot " + s + " alone", x.period(50), 10);
+            x.fill(s, -1);
+        }
     }
 
     private static void periodEdges() {

@@ -36,6 +36,15 @@ final class Check {
         tell(what + " threw nothing, due is " + due.getName());
     }
 
+    void takes(String what, Call call) {
+        asked++;
+        try {
+            call.make();
+        } catch (RuntimeException e) {
+            tell(what + " threw " + e.getClass().getName() + ", due is an answer");
+        }
+    }
+
     void tell(String text) {
         wrong++;
         System.out.println(name + ": " + text);

@@ -460,10 +460,6 @@ public final class RotorBench {
             }
             length = pins;
         }
-
-        boolean isUpAt(int place) {
-            return place < length && ups[place];
-        }
     }
 
     private static final class Machine {
@@ -607,8 +603,11 @@ public final class RotorBench {
             return wheels[slots[slot]].notches[stand.positions[slot]];
         }
 
+        /** Asks for the place first, as a pin wheel that is none has no active pin. */
         private boolean isUp(int pinWheel) {
-            return pinWheels[pinWheel].isUpAt(stand.places[pinWheel]);
+            PinWheel wheel = pinWheels[pinWheel];
+            int place = stand.places[pinWheel];
+            return place < wheel.length && wheel.ups[place];
         }
 
         /** Pin wheels may have been cut anew since, so a place goes round on the length of now. */

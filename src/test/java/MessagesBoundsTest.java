@@ -286,7 +286,7 @@ public final class MessagesBoundsTest {
         }
     }
 
-    /** "from the same [..] places": on a longer pin wheel the place is not too great. */
+    /** "keyed again from the same positions and places": on a longer pin wheel the place is not too great. */
     private static void replayOnLongerPinWheels() {
         for (int k : new int[] {0, 11}) {
             RotorBench x = caged(k, 3, 2);

@@ -17,6 +17,7 @@ public final class PathsTest {
         CHECK.end();
     }
 
+    /** "0 through the filled slots, 0 first" */
     private static void slotsInOrder() {
         RotorBench x = new RotorBench();
         x.fill(4, 0);
@@ -33,6 +34,7 @@ public final class PathsTest {
         CHECK.is("pins do not matter", x.image(0), 2);
     }
 
+    /** "in one with position p and a wheel with ring r and wiring w from c to w(c + p - r) - p + r, all modulo m" */
     private static void positionAndRing() {
         for (int m : new int[] {10, 26, 32}) {
             RotorBench x = new RotorBench();
@@ -55,6 +57,7 @@ public final class PathsTest {
         }
     }
 
+    /** "A SIGN c TAKES A PATH (0 at first): through the plugboard, the path, the plugboard again." */
     private static void plugboardTwice() {
         RotorBench x = new RotorBench();
         x.fill(0, 0);
@@ -72,6 +75,10 @@ public final class PathsTest {
         CHECK.is("the plugboard round path 2", x.image(5), 6);
     }
 
+    /**
+     * "then, if the machine REFLECTS (it does not at first), through the reflector and back through the slots, the last
+     * first, by the wirings the other way round."
+     */
     private static void reflectingWay() {
         RotorBench x = new RotorBench();
         x.fill(0, 0);
@@ -149,6 +156,7 @@ public final class PathsTest {
         }
     }
 
+    /** "bit k of c, 0 .. 4, is turned over if just one of the pin wheels k and k + 5 has its active pin up." */
     private static void bits() {
         for (int k = 0; k < 5; k++) {
             RotorBench x = new RotorBench();
@@ -187,6 +195,7 @@ public final class PathsTest {
         CHECK.is("the plugboard round path 1", x.image(0), 30);
     }
 
+    /** "1 (for 32 contacts; for others nothing happens here)" */
     private static void bitsElsewhere() {
         for (int m : new int[] {10, 26}) {
             RotorBench x = new RotorBench();
@@ -201,6 +210,7 @@ public final class PathsTest {
         }
     }
 
+    /** "2 to n - c modulo m, n being how many bars have a lug at a pin wheel whose active pin is up." */
     private static void bars() {
         RotorBench x = new RotorBench();
         x.path(2);

@@ -171,7 +171,7 @@ public final class SettingsBoundsTest {
         ranges("wire b", m, 0, m - 1, (x, v) -> x.wire(0, 1, v));
     }
 
-    /** "the contact that led to b leads to where a did: that one": it may be a itself. */
+    /** "A wheel's wiring leads from a to b; the contact that led to b leads to where a did: that one.": it may be a itself. */
     private static void wireToWhereItLeads(int m) {
         RotorBench x = Benches.bare(m);
         x.fill(0, 7);
@@ -295,7 +295,7 @@ public final class SettingsBoundsTest {
         }
     }
 
-    /** "what was in it (NONE: nothing)" */
+    /** "A slot is filled by a wheel (NONE: empty): what was in it (NONE: nothing)." */
     private static void fillWithTheSame() {
         RotorBench x = new RotorBench();
         CHECK.is("none in an empty slot", x.fill(0, NONE), NONE);
@@ -374,7 +374,10 @@ public final class SettingsBoundsTest {
         BOUNDS.refuses("open and in a pair", OPEN.get(m), ISE, x -> x.plug(0, 0, 9));
     }
 
-    /** "exchange the contacts of their pairs; others stay": none in a pair, all in pairs, all again. */
+    /**
+     * "Two contacts become a pair of the plugboard (part 0) or of the reflector (1).", "exchange the contacts of their
+     * pairs; others stay": none in a pair, all in pairs, all again.
+     */
     private static void plugAll(int m) {
         for (int part = 0; part < 2; part++) {
             RotorBench x = Benches.bare(m);
@@ -461,7 +464,7 @@ public final class SettingsBoundsTest {
         CHECK.is("two are some", x.count(4), 2);
     }
 
-    /** "all its pins down" */
+    /** "A pin wheel has a length, all its pins down" */
     private static void pinsAllDown() {
         RotorBench x = new RotorBench();
         for (int length : new int[] {61, 30, 61, 1, 61}) {
@@ -570,7 +573,7 @@ public final class SettingsBoundsTest {
         return x;
     }
 
-    /** "(NONE: none ..)" */
+    /** "A bar's lugs are at these pin wheels (NONE: none; both may be at one)." */
     private static void lugsAtNone() {
         RotorBench x = caged(32);
         CHECK.is("at none at first", x.image(0), 0);

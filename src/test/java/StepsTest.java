@@ -49,6 +49,7 @@ public final class StepsTest {
         CHECK.is(what + "5", x.at(0, 5), 0);
     }
 
+    /** "0 the first filled slot steps; each other one does if all filled ones ahead of it are at their notches." */
     private static void ruleZero() {
         steps(0, "000", "100");
         steps(0, "100", "110");
@@ -60,6 +61,10 @@ public final class StepsTest {
         steps(0, "111", "111");
     }
 
+    /**
+     * "1 the first does; each other one does if the filled one ahead of it is at its notch, or it is itself and is not
+     * the last filled one."
+     */
     private static void ruleOne() {
         steps(1, "000", "100");
         steps(1, "100", "110");
@@ -71,6 +76,7 @@ public final class StepsTest {
         steps(1, "111", "111");
     }
 
+    /** "2 each does if the next filled one (behind the last: the first) is not at its notch." */
     private static void ruleTwo() {
         steps(2, "000", "111");
         steps(2, "100", "110");
@@ -82,6 +88,7 @@ public final class StepsTest {
         steps(2, "111", "000");
     }
 
+    /** "3 slot s does if pin wheel s has its active pin up, or is none." */
     private static void ruleThree() {
         // Notches mean nothing here, and a pin wheel that is none lets its slot step.
         steps(3, "000", "111");
@@ -105,6 +112,7 @@ public final class StepsTest {
         CHECK.is("rule 3, none always", x.at(0, 4), 3);
     }
 
+    /** "4 the last filled one does; each other one does if the last is not at its notch." */
     private static void ruleFour() {
         steps(4, "000", "111");
         steps(4, "100", "111");
@@ -140,6 +148,7 @@ public final class StepsTest {
         }
     }
 
+    /** "A slot that steps goes to its position + 1, behind m - 1 to 0." */
     private static void roundTheEnd() {
         for (int m : new int[] {10, 26, 32}) {
             RotorBench x = new RotorBench();
@@ -157,6 +166,10 @@ public final class StepsTest {
         }
     }
 
+    /**
+     * "TO STEP, by the RULE (0 at first): a filled slot is AT ITS NOTCH if its wheel has a notch at its position; all are
+     * looked at before any steps."
+     */
     private static void lookedAtBeforeAnyStep() {
         // The first goes onto its notch in this step; the second must not see that.
         RotorBench x = new RotorBench();
@@ -179,6 +192,7 @@ public final class StepsTest {
         CHECK.is("rule 3: now", y.at(0, 0), 1);
     }
 
+    /** "Then each pin wheel's place goes on by one, round." */
     private static void placesGoOn() {
         for (int rule = 0; rule < 5; rule++) {
             RotorBench x = new RotorBench();
